@@ -876,7 +876,7 @@ public final class LongerBack {
             places = land.places;
             for (int from = 0; from < places; from++) {
                 for (int to = 0; to < places; to++) {
-                    lengths[Land.wayAt(from, to)] = from == to ? 0 : oneWay(land, from, to);
+                    lengths[MOST_PLACES * from + to] = from == to ? 0 : oneWay(land, from, to);
                 }
             }
             for (int over = 0; over < places; over++) {
@@ -889,15 +889,16 @@ public final class LongerBack {
         }
 
         private int lengthOf(int from, int to) {
-            return lengths[Land.wayAt(from, to)];
+            return lengths[MOST_PLACES * from + to];
         }
 
         private void shortenOver(int over) {
             for (int from = 0; from < places; from++) {
-                for (int to = 0; to < places; to++) {
-                    int length = together(lengthOf(from, over), lengthOf(over, to));
+                int head = lengthOf(from, over);
+                for (int to = 0; to < places && head != NO_LENGTH; to++) {
+                    int length = together(head, lengthOf(over, to));
                     if (length < lengthOf(from, to)) {
-                        lengths[Land.wayAt(from, to)] = Math.max(length, DEEPEST);
+                        lengths[MOST_PLACES * from + to] = Math.max(length, DEEPEST);
                     }
                 }
             }
@@ -1030,7 +1031,7 @@ public final class LongerBack {
                 int head = together(now.lengthOf(start, from), mendedWay);
                 for (int end = 0; end < places; end++) {
                     int length = together(head, now.lengthOf(to, end));
-                    lengths[Land.wayAt(start, end)] = Math.min(length, now.lengthOf(start, end));
+                    lengths[MOST_PLACES * start + end] = Math.min(length, now.lengthOf(start, end));
                 }
             }
             return true;
@@ -1058,8 +1059,10 @@ public final class LongerBack {
                     return bestSum(land.rounds, atlas, round, false);
                 case MEET:
                     return meetSum(land, atlas, round);
-                default:
+                case PAIRS:
                     return pairsSum(land.rounds, atlas, round);
+                default:
+                    return NO_LENGTH;
             }
         }
 
@@ -1381,10 +1384,6 @@ public final class LongerBack {
                 return false;
             }
             int to = taken;
-            return takeEnds(land, from, to) && takeBack(land, from, to);
-        }
-
-        private boolean takeEnds(Land land, int from, int to) {
             if (!takeMile(LEAST_MILES, MOST_MILES)) {
                 return false;
             }
@@ -1393,16 +1392,14 @@ public final class LongerBack {
                 return false;
             }
             land.setWay(from, to, low, taken);
-            return true;
+            return !takeWord("back") || takeWayBack(land, to, from);
         }
 
-        private boolean takeBack(Land land, int from, int to) {
-            if (takeWord("back")) {
-                if (!takeMile(LEAST_MILES, MOST_MILES)) {
-                    return false;
-                }
-                land.setWay(to, from, taken, taken);
+        private boolean takeWayBack(Land land, int from, int to) {
+            if (!takeMile(LEAST_MILES, MOST_MILES)) {
+                return false;
             }
+            land.setWay(from, to, taken, taken);
             return true;
         }
 
@@ -1421,20 +1418,18 @@ public final class LongerBack {
                 }
                 land.walks.append(walk, taken);
             }
-            return land.walks.lengths[walk] >= 2 && takeTotal(land, walk);
-        }
-
-        private boolean takeTotal(Land land, int walk) {
-            if (!takeWord("all") || !takeMile(-MOST_TOTAL, MOST_TOTAL)) {
+            if (land.walks.lengths[walk] < 2 || !takeWord("all") || !takeMile(-MOST_TOTAL, MOST_TOTAL)) {
                 return false;
             }
             land.totals[walk] = taken;
-            if (takeWord("slack")) {
-                if (!takeNumber(MOST_SLACK)) {
-                    return false;
-                }
-                land.slacks[walk] = taken;
+            return !takeWord("slack") || takeSlack(land, walk);
+        }
+
+        private boolean takeSlack(Land land, int walk) {
+            if (!takeNumber(MOST_SLACK)) {
+                return false;
             }
+            land.slacks[walk] = taken;
             return true;
         }
 
@@ -1489,20 +1484,14 @@ public final class LongerBack {
             start = at;
             token = kindAt(at);
             value = 0;
-            if (token == END) {
-                next = at;
-                return;
-            }
-            at++;
-            if (token == WORD || token == NUMBER) {
-                while (at < size && kindAt(at) == token) {
-                    at++;
+            boolean isLong = token == WORD || token == NUMBER;
+            while (at < size && kindAt(at) == token && (at == start || isLong)) {
+                if (token == NUMBER) {
+                    value = Math.min(10 * value + bytes[at] - '0', MOST_NUMBER + 1);
                 }
+                at++;
             }
             next = at;
-            if (token == NUMBER) {
-                value = numberBetween(start, next);
-            }
         }
 
         private int kindAt(int at) {
@@ -1520,14 +1509,6 @@ public final class LongerBack {
                 return SEMICOLON;
             }
             return b == '-' ? MINUS : STRANGE;
-        }
-
-        private int numberBetween(int first, int behind) {
-            int number = 0;
-            for (int at = first; at < behind; at++) {
-                number = Math.min(10 * number + bytes[at] - '0', MOST_NUMBER + 1);
-            }
-            return number;
         }
     }
 
