@@ -710,6 +710,13 @@ public final class PromiseTest {
         x.errands(3, 2);
         due("the most", x.mend(), 23);
         due("nothing is mended", x.wayOf(3, 2, 0), 9);
+        both(x, 0, 1, 3, 4);
+        x.errands(0, 1);
+        x.errands(1, 1);
+        due("the least of those that save most", x.mend(), 12);
+        x.shut(0, 1, true);
+        x.errands(0, 0);
+        x.errands(1, 0);
         both(x, 2, 3, -1, 9);
         due("with a LOOP then: left out", x.mend(), 12);
         x.shut(1, 2, true);
@@ -805,6 +812,10 @@ public final class PromiseTest {
             "walk 0 1 all -10000", "walk 0 1 all 5 slack 100", "walk 0 1 all 5 slack -1", "walk 0 1 slack 5", "Place", "place, place",
             "place;;place", ";place", "road", "place\tplace", "place errands 12345", "way 0 1 99999999999999999999", "walk -1 0 all 5",
             "walk 0 1 all", "walk all 5", "place place", "way 0 1 5 5", "\u0000", "place \u00ff", "pla ce",
+            "way 0", "way 0;place", "way 0 1 5 to", "way 0 1 5 to ;place", "way 0 1 5 back", "way 0 1 5 to 6 back -", "walk", "walk;place",
+            "walk 0", "walk 0 1;place", "walk 0 1 all -", "walk 0 1 all 5 slack", "walk 0 1 all 5 slack ;place",
+            "xlace", "xay 0 1 5", "xalk 0 1 all 5", "place xrrands 5", "way 0 1 5 xo 6", "way 0 1 5 xack 6", "walk 0 1 xll 5",
+            "walk 0 1 all 5 xlack 5", "placez", "placea", "place`", "place{", "place/", "place:", "place errands 5:", "place errands 5/",
         };
         int[] faults = {
             0, 6, 9, 0, 6, 13, 14, 14,
@@ -815,6 +826,10 @@ public final class PromiseTest {
             14, 21, 21, 9, 0, 5,
             6, 0, 0, 5, 14, 8, 5,
             12, 5, 6, 10, 0, 6, 0,
+            5, 5, 12, 13, 14, 21, 4, 4,
+            6, 8, 14, 20, 21,
+            0, 0, 0, 6, 10, 10, 9,
+            15, 0, 0, 5, 5, 5, 5, 15, 15,
         };
         due("as many", whole.length, faults.length);
         for (int i = 0; i < whole.length && i < faults.length; i++) {
@@ -830,7 +845,8 @@ public final class PromiseTest {
     private static void land() {
         landFaults();
         LongerBack x = new LongerBack();
-        due("two", tell(x, "place errands 7;place"), 2);
+        due("two", tell(x, "place errands 90;place"), 2);
+        due("errands(0, 7)", x.errands(0, 7), 90);
         due("errands(0, 0)", x.errands(0, 0), 7);
         due("there by then", tell(x, "place;way 2 0 4 to 9 back -5;way0 1- 99to-98"), 3);
         ends(x, 2, 0, 4, 9);
