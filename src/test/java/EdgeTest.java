@@ -6,11 +6,9 @@ import java.nio.file.Files;
 import java.nio.file.Path;
 import java.util.ArrayList;
 import java.util.HashMap;
-import java.util.HashSet;
 import java.util.List;
 import java.util.Map;
 import java.util.Set;
-import java.util.TreeMap;
 import java.util.TreeSet;
 import java.util.function.BiConsumer;
 import java.util.regex.Matcher;
@@ -42,6 +40,10 @@ public final class EdgeTest {
     private static final TreeSet<Integer> promises = new TreeSet<>();
     private static String document = null;
     private static String unquoted = "";
+    /** Where the words stand that the present runs are for, and how many answers were asked ahead of them. */
+    private static String quoted = null;
+    private static int askedAhead = 0;
+    private static int promise = 0;
     private static int cases = 0;
     private static int asked = 0;
     private static int looked = 0;
@@ -250,34 +252,31 @@ public final class EdgeTest {
                 if (findingOf(got) >= 0) {
                     fault(call.where + ": " + call + " answered " + got + ", due is no finding");
                 }
-                continue;
-            }
-            if (call.want == ANY) {
-                continue;
-            }
-            asked++;
-            if (got != call.want) {
-                fault(call.where + ": " + call + " answered " + got + ", due is " + call.want);
-            }
-            if (i >= LATE) {
-                continue;
-            }
-            List<Call> before = calls.subList(0, i);
-            boolean isNumber = call.name.equals("write") && i > 0 && findingOf(call.want) >= 0 && isWritten(before, call.want);
-            int finding = isNumber ? -1 : findingOf(call.want);
-            boolean isFault = call.name.equals("land") && call.want < 0;
-            if (finding >= 0 || QUESTIONS.contains(call.name)) {
-                sameAsUnasked(before, call, null, finding);
-            } else if (isFault) {
-                sameAsUnasked(before, call, new Call(call.where, "wipe", new Object[0], null), -1);
+            } else if (call.want != ANY) {
+                asked++;
+                if (got != call.want) {
+                    fault(call.where + ": " + call + " answered " + got + ", due is " + call.want);
+                }
+                if (i < LATE) {
+                    lookBehind(calls.subList(0, i), call);
+                }
             }
         }
     }
 
-    /** A number of 64 bits may look like a finding. */
-    private static boolean isWritten(List<Call> before, long number) {
-        for (Call call : before) {
-            if (call.name.equals("write") && call.args[2].equals(number)) {
+    private static void lookBehind(List<Call> before, Call call) {
+        int finding = isWritten(before, call) ? -1 : findingOf(call.want);
+        if (finding >= 0 || QUESTIONS.contains(call.name)) {
+            sameAsUnasked(before, call, null, finding);
+        } else if (call.name.equals("land") && call.want < 0) {
+            sameAsUnasked(before, call, new Call(call.where, "wipe", new Object[0], null), -1);
+        }
+    }
+
+    /** A number of 64 bits may look like a finding, and is none. */
+    private static boolean isWritten(List<Call> before, Call call) {
+        for (Call earlier : before) {
+            if (call.name.equals("write") && earlier.name.equals("write") && earlier.args[2].equals(call.want)) {
                 return true;
             }
         }
@@ -396,6 +395,27 @@ public final class EdgeTest {
         unquoted = unquoted.replace(words, "..");
     }
 
+    private static void endCase(List<Call> calls) {
+        if (!calls.isEmpty()) {
+            runCase(calls);
+        }
+    }
+
+    /** Words that are quoted, and a promise that is named, must have an answer asked behind them. */
+    private static void endWords() {
+        if (quoted != null && asked == askedAhead) {
+            fault(quoted + " has no answer of its own");
+        }
+        quoted = null;
+    }
+
+    private static void beginWords(String where, String words) {
+        endWords();
+        quote(where, words);
+        quoted = where;
+        askedAhead = asked;
+    }
+
     /** A script's blocks: a heading (==), words of the document (>), a world, or calls. */
     private static void runScript(Path file) throws IOException {
         List<Call> calls = new ArrayList<>();
@@ -404,28 +424,30 @@ public final class EdgeTest {
             number++;
             String where = file.getFileName() + ":" + number;
             String line = raw.contains("\"") ? raw.strip() : raw.replaceFirst("#.*", "").strip();
-            boolean begins = line.startsWith("==") || line.startsWith(">") || line.startsWith("world ");
-            if (begins || line.equals("--")) {
-                if (!calls.isEmpty()) {
-                    runCase(calls);
-                }
+            boolean isHeading = line.startsWith("==");
+            boolean isWorld = line.startsWith("world ");
+            if (isHeading || isWorld || line.startsWith(">") || line.equals("--")) {
+                endCase(calls);
                 calls = new ArrayList<>();
             }
             if (line.startsWith("== Promise ")) {
-                promises.add(Integer.parseInt(line.substring(11, line.indexOf(':'))));
+                endWords();
                 quote(where, line.substring(3));
+                promise = Integer.parseInt(line.substring(11, line.indexOf(':')));
             } else if (line.startsWith(">")) {
-                quote(where, line.substring(1).strip());
-            } else if (line.startsWith("world ")) {
-                calls = new ArrayList<>();
+                beginWords(where, line.substring(1).strip());
+                promises.add(promise);
+            } else if (isHeading) {
+                endWords();
+                promise = 0;
+            } else if (isWorld) {
                 WORLDS.put(line.substring(6), calls);
-            } else if (!begins && !line.isEmpty() && !line.equals("--")) {
+            } else if (!line.isEmpty() && !line.equals("--")) {
                 addLine(calls, where, line);
             }
         }
-        if (!calls.isEmpty()) {
-            runCase(calls);
-        }
+        endCase(calls);
+        endWords();
     }
 
     private static void readDocument() throws IOException {
