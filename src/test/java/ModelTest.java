@@ -931,6 +931,8 @@ public final class ModelTest {
         final LongerBack real = new LongerBack();
         final Model model = new Model();
         boolean right = true;
+        /** By PLACE; null in a land without hills. */
+        int[] hills = null;
 
         Run(long seed) {
             random = new Random(seed);
@@ -1053,7 +1055,84 @@ public final class ModelTest {
             }
         }
 
+        /** Up is far and down is below nought, but round it comes to no less than nothing; often to just that. */
+        int overHills(int from, int to) {
+            return hills[to] - hills[from] + (random.nextInt(3) == 0 ? random.nextInt(30) : 0);
+        }
+
+        void hillWays() {
+            hills = new int[places];
+            for (int p = 0; p < places; p++) {
+                hills[p] = random.nextInt(random.nextBoolean() ? 50 : 4);
+            }
+            for (int i = random.nextInt(2 * places); i > 0; i--) {
+                int a = random.nextInt(places);
+                int b = random.nextInt(places);
+                int more = random.nextInt(12);
+                call("way", a, b, hills[b] - hills[a] + more, 999);
+                call("way", b, a, hills[a] - hills[b] + more, 999);
+            }
+            for (int p = 0; p < places; p++) {
+                call("errands", p, random.nextInt(4) == 0 ? random.nextInt(100) : random.nextInt(3));
+            }
+        }
+
+        void hillRow(int round) {
+            call("round", random.nextInt(7), random.nextInt(places));
+            for (int i = random.nextInt(6); i > 0; i--) {
+                call("over", round, random.nextInt(places));
+            }
+            call("sum", round);
+        }
+
+        /** WALKS that tell the truth about MILES which nobody knows, so that one learns by one from the other. */
+        void survey() {
+            int[] truth = new int[100];
+            for (int a = 0; a < places; a++) {
+                for (int b = 0; b < places; b++) {
+                    int miles = random.nextInt(300);
+                    truth[10 * a + b] = miles;
+                    int low = Math.max(-99, miles - random.nextInt(200));
+                    call("way", a, b, low, miles + random.nextInt(200));
+                    if (random.nextInt(5) == 0) {
+                        call("shut", a, b, 1);
+                    }
+                }
+            }
+            int few = Math.min(places, 2 + random.nextInt(3));
+            for (int w = 0; w < 8; w++) {
+                int slack = random.nextInt(3) == 0 ? random.nextInt(100) : random.nextInt(4);
+                int[] row = new int[2 + random.nextInt(5)];
+                int total = random.nextInt(2 * slack + 1) - slack + (odd() ? random.nextInt(600) - 300 : 0);
+                for (int i = 0; i < row.length; i++) {
+                    row[i] = random.nextInt(few);
+                    if (i > 0 && row[i] == row[i - 1]) {
+                        row[i] = (row[i] + 1) % few;
+                    }
+                    total += i == 0 ? 0 : truth[10 * row[i - 1] + row[i]];
+                }
+                call("walk", row[0], row[1], total, slack);
+                for (int i = 2; i < row.length; i++) {
+                    call("on", w, row[i]);
+                }
+            }
+            call("lies");
+            call("known", 2);
+            call("ask");
+            call("learn");
+            call("known", 2);
+            for (int i = 0; i < 20; i++) {
+                call("wayOf", random.nextInt(places), random.nextInt(places), random.nextInt(3));
+            }
+        }
+
         void wayCall() {
+            if (hills != null && !odd()) {
+                int a = random.nextInt(places);
+                int b = random.nextInt(places);
+                call("way", a, b, overHills(a, b), random.nextInt(900) + 99);
+                return;
+            }
             int low = miles();
             int high = random.nextBoolean() ? low : low + within(0, 300);
             call("way", place(), place(), low, high);
@@ -1140,10 +1219,20 @@ public final class ModelTest {
         }
 
         boolean holds() {
+            int land = random.nextInt(4);
             for (int p = 0; p < places; p++) {
-                if (random.nextInt(4) > 0) {
+                if (land > 1 || random.nextInt(4) > 0) {
                     call("place");
                 }
+            }
+            if (land == 2) {
+                hillWays();
+                for (int r = 0; r < 8; r++) {
+                    hillRow(r);
+                }
+            }
+            if (land == 3) {
+                survey();
             }
             int ways = random.nextInt(1 + places * places);
             for (int i = 0; i < ways; i++) {
